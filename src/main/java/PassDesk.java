@@ -323,7 +323,7 @@ public final class PassDesk {
     }
 
     private void checkSet(int passes) {
-        // The shift without a sign finds what is no pass in a negative number, too.
+        // What is left is what stands from the number of passes on: a negative number leaves its sign at least.
         if (passes >>> passList.size() != 0) {
             throw new IllegalArgumentException("the set contains something that is no pass");
         }
@@ -641,8 +641,8 @@ public final class PassDesk {
     private static final class Search {
         final int[] weights = new int[MAX_PASSES];
         final int[] conflicts = new int[MAX_PASSES];
-        int bestSet = 0;
-        int bestWeight = 0;
+        int bestSet;
+        int bestWeight;
 
         int weightOf(int set) {
             int sum = 0;

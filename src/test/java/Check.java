@@ -39,18 +39,25 @@ final class Check {
         }
     }
 
-    /** The call throws just this exception. */
+    /** The call throws just this exception, and by a throw of the desk's own. */
     static void fails(String what, Class<?> due, Call call) {
         made++;
-        Class<?> got = null;
+        String got = "nothing";
         try {
             call.make();
         } catch (RuntimeException e) {
-            got = e.getClass();
+            got = nameOf(e);
         }
-        if (got != due) {
-            tell(what + " threw " + got + ", due is " + due);
+        if (!got.equals(due.getSimpleName())) {
+            tell(what + " threw " + got + ", due is " + due.getSimpleName());
         }
+    }
+
+    /** The exception's name; what the library throws gets another one, so that it is never due. */
+    static String nameOf(RuntimeException e) {
+        StackTraceElement[] calls = e.getStackTrace();
+        boolean own = calls.length > 0 && !calls[0].getClassName().contains(".");
+        return e.getClass().getSimpleName() + (own ? "" : " of the library");
     }
 
     /** The call throws just this exception, and the desk is then as it was. */

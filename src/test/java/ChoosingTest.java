@@ -153,6 +153,9 @@ public final class ChoosingTest {
     private static void promise11BestOfPairs() {
         PassDesk desk = desk();
         Check.same("of none", desk.best(), 0);
+        PassDesk lone = desk();
+        lone.addPass(0, 0, 10, 11);
+        Check.same("of one of weight 1", lone.best(), 1);
         desk.addPass(0, 0, 10, 20);
         desk.addPass(2, 0, 15, 18);
         Check.same("10 against 9", desk.best(), 1);

@@ -224,6 +224,9 @@ public final class HappeningTest {
         Check.same("the next one", desk.antenna(0, 1), 0);
         desk.giveUp(0);
         Check.same("no more", desk.antenna(0, 1), -1);
+        desk.addPass(0, 1, 40, 45);
+        desk.take(16);
+        Check.same("the first, though another one comes behind it", desk.antenna(1, 1), 3);
         PassDesk late = new PassDesk();
         late.addAntenna(1, 0, 2);
         late.addSatellite(0, 1, 10, 1000);
