@@ -510,7 +510,7 @@ public final class PassDesk {
         if (room <= 0 || satellite.gathers <= 0) {
             return NONE;
         }
-        // The minute that it is is itself the first to pass: the n-th is now + n - 1, n being room / gathers rounded up.
+        // It is full behind the n-th minute, n being room / gathers rounded up; now is the first, so that is now + n - 1.
         return now + (room - 1) / satellite.gathers;
     }
 
