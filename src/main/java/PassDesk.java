@@ -459,6 +459,10 @@ public final class PassDesk {
         if (contains(left, pass)) {
             searchFrom(search, pass + 1, chosen | (1 << pass), others & ~search.conflicts[pass],
                     weight + search.weights[pass]);
+            // Each weight is at least 1: a pass that is in no other one's way is in every best set.
+            if ((others & search.conflicts[pass]) == 0) {
+                return;
+            }
         }
         searchFrom(search, pass + 1, chosen, others, weight);
     }

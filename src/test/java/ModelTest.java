@@ -7,8 +7,10 @@ import java.util.Random;
  * one, tries every set, and keeps the data of each minute on its own. The seeds are fixed.
  */
 public final class ModelTest {
-    private static final int RUNS = 400;
-    private static final int CALLS = 480;
+    private static final int RUNS = 600;
+    private static final int CALLS = 512;
+    private static final int CALLS_OF_A_STEP = 3;
+    private static final int LATE = 9700;
 
     public static void main(String[] args) {
         for (int seed = 0; seed < RUNS; seed++) {
@@ -26,6 +28,7 @@ public final class ModelTest {
     private final int crowd;
     private final PassDesk desk = new PassDesk();
     private final Model model = new Model();
+    private int calls = 0;
 
     private ModelTest(int seed) {
         this.seed = seed;
@@ -33,10 +36,17 @@ public final class ModelTest {
         this.crowd = 40 + random.nextInt(300);
     }
 
+    /** The document promises nothing of a desk behind its 512th call. */
     private void play() {
-        for (int call = 0; call < CALLS; call++) {
-            step(call);
-            Check.same("seed " + seed + ", call " + call + ": digest()", desk.digest(), model.digest());
+        while (seed % 8 == 0 && model.now < LATE) {
+            both("run", new int[] {Math.min(500, LATE - model.now)}, a -> desk.run(a[0]), a -> model.run(a[0]));
+        }
+        while (calls + CALLS_OF_A_STEP <= CALLS) {
+            step();
+            if (random.nextInt(3) == 0) {
+                calls++;
+                Check.same("seed " + seed + ", call " + calls + ": digest()", desk.digest(), model.digest());
+            }
         }
     }
 
@@ -55,115 +65,117 @@ public final class ModelTest {
         return kind < 8 ? least : kind < 14 ? greatest : least + random.nextInt(Math.max(1, greatest - least + 1));
     }
 
-    private void step(int call) {
-        int kind = random.nextInt(call < 60 ? 60 : 100);
+    private void step() {
+        int kind = random.nextInt(calls < 60 ? 60 : 100);
         if (kind < 40) {
-            build(call);
+            build();
         } else if (kind < 85) {
-            choose(call);
+            choose();
         } else {
-            happen(call);
+            happen();
         }
     }
 
-    private void build(int call) {
+    private void build() {
         int[] n = new int[4];
         switch (random.nextInt(9)) {
             case 0:
                 n = new int[] {number(1, 15) | random.nextInt(16), number(0, 30), number(1, 100)};
-                both(call, "addAntenna", n, a -> desk.addAntenna(a[0], a[1], a[2]),
+                both("addAntenna", n, a -> desk.addAntenna(a[0], a[1], a[2]),
                         a -> model.addAntenna(a[0], a[1], a[2]));
                 break;
             case 1:
                 n = new int[] {number(0, 3), number(1, 9), number(0, 50), number(1, random.nextBoolean() ? 300 : 100000)};
-                both(call, "addSatellite", n, a -> desk.addSatellite(a[0], a[1], a[2], a[3]),
+                both("addSatellite", n, a -> desk.addSatellite(a[0], a[1], a[2], a[3]),
                         a -> model.addSatellite(a[0], a[1], a[2], a[3]));
                 break;
             case 2:
                 int from = number(model.now, model.now + crowd);
                 n = new int[] {number(0, model.antennas.size() - 1), from, from + number(1, 20)};
-                both(call, "addOutage", n, a -> desk.addOutage(a[0], a[1], a[2]),
+                both("addOutage", n, a -> desk.addOutage(a[0], a[1], a[2]),
                         a -> model.addOutage(a[0], a[1], a[2]));
                 break;
             case 3:
                 n = new int[] {number(0, 60)};
-                both(call, "setHandover", n, a -> desk.setHandover(a[0]), a -> model.setHandover(a[0]));
+                both("setHandover", n, a -> desk.setHandover(a[0]), a -> model.setHandover(a[0]));
                 break;
             case 4:
                 n = new int[] {number(0, 2)};
-                both(call, "count", n, a -> desk.count(a[0]), a -> model.count(a[0]));
+                both("count", n, a -> desk.count(a[0]), a -> model.count(a[0]));
                 break;
             default:
                 int begin = number(model.now, model.now + crowd);
                 int longest = random.nextInt(10) == 0 ? 600 : 60;
-                n = new int[] {number(0, model.satellites.size() - 1), number(0, model.antennas.size() - 1), begin,
-                    begin + number(1, longest)};
-                both(call, "addPass", n, a -> desk.addPass(a[0], a[1], a[2], a[3]),
+                // Passes of few lengths and begins have many sets of the same weight, and ends that meet begins.
+                int end = seed % 3 == 0 ? begin + 10 * number(1, 2) : begin + number(1, longest);
+                begin -= seed % 3 == 0 && begin > model.now + 5 ? begin % 5 : 0;
+                n = new int[] {number(0, model.satellites.size() - 1), number(0, model.antennas.size() - 1), begin, end};
+                both("addPass", n, a -> desk.addPass(a[0], a[1], a[2], a[3]),
                         a -> model.addPass(a[0], a[1], a[2], a[3]));
                 break;
         }
     }
 
-    private void choose(int call) {
+    private void choose() {
         int last = model.passes.size() - 1;
         int[] pass = {number(0, last)};
         int set = random.nextInt(1 << model.passes.size());
         int[] sets = {random.nextInt(10) == 0 ? number(0, 1 << model.passes.size()) : set & random.nextInt(65536)};
         switch (random.nextInt(9)) {
             case 0:
-                both(call, "isConflict", new int[] {number(0, last), number(0, last)},
+                both("isConflict", new int[] {number(0, last), number(0, last)},
                         a -> desk.isConflict(a[0], a[1]) ? 1 : 0, a -> model.isConflict(a[0], a[1]) ? 1 : 0);
                 break;
             case 1:
-                both(call, "canTake", pass, a -> desk.canTake(a[0]) ? 1 : 0, a -> model.canTake(a[0]) ? 1 : 0);
+                both("canTake", pass, a -> desk.canTake(a[0]) ? 1 : 0, a -> model.canTake(a[0]) ? 1 : 0);
                 break;
             case 2:
             case 3:
-                both(call, "best", new int[0], a -> desk.best(), a -> model.best());
+                both("best", new int[0], a -> desk.best(), a -> model.best());
                 if (random.nextInt(4) == 0) {
                     int[] best = {model.best() & random.nextInt(65536)};
-                    both(call, "take", best, a -> desk.take(a[0]), a -> model.take(a[0]));
+                    both("take", best, a -> desk.take(a[0]), a -> model.take(a[0]));
                 }
                 break;
             case 4:
-                both(call, "weight", sets, a -> desk.weight(a[0]), a -> model.weight(a[0]));
+                both("weight", sets, a -> desk.weight(a[0]), a -> model.weight(a[0]));
                 break;
             case 5:
-                both(call, "take", new int[] {random.nextBoolean() ? sets[0] : 1 << random.nextInt(17)},
+                both("take", new int[] {random.nextBoolean() ? sets[0] : 1 << random.nextInt(17)},
                         a -> desk.take(a[0]), a -> model.take(a[0]));
                 break;
             case 6:
-                both(call, "giveUp", pass, a -> desk.giveUp(a[0]), a -> model.giveUp(a[0]));
+                both("giveUp", pass, a -> desk.giveUp(a[0]), a -> model.giveUp(a[0]));
                 break;
             case 7:
-                both(call, "taken", new int[0], a -> desk.taken(), a -> model.taken());
+                both("taken", new int[0], a -> desk.taken(), a -> model.taken());
                 break;
             default:
-                both(call, "handovers", new int[] {number(0, model.satellites.size() - 1)},
+                both("handovers", new int[] {number(0, model.satellites.size() - 1)},
                         a -> desk.handovers(a[0]), a -> model.handovers(a[0]));
                 break;
         }
     }
 
-    private void happen(int call) {
+    private void happen() {
         int[] what = {number(0, 4), number(0, 7)};
         switch (random.nextInt(6)) {
             case 0:
             case 1:
-                both(call, "run", new int[] {random.nextInt(12) == 0 ? number(1, 500) : 1 + random.nextInt(8)},
+                both("run", new int[] {random.nextInt(12) == 0 ? number(1, 500) : 1 + random.nextInt(8)},
                         a -> desk.run(a[0]), a -> model.run(a[0]));
                 break;
             case 2:
-                both(call, "share", new int[0], a -> desk.share(), a -> model.share());
+                both("share", new int[0], a -> desk.share(), a -> model.share());
                 break;
             case 3:
-                both(call, "antenna", what, a -> desk.antenna(a[0], a[1]), a -> model.antenna(a[0], a[1]));
+                both("antenna", what, a -> desk.antenna(a[0], a[1]), a -> model.antenna(a[0], a[1]));
                 break;
             case 4:
-                both(call, "satellite", what, a -> desk.satellite(a[0], a[1]), a -> model.satellite(a[0], a[1]));
+                both("satellite", what, a -> desk.satellite(a[0], a[1]), a -> model.satellite(a[0], a[1]));
                 break;
             default:
-                both(call, "pass", what, a -> desk.pass(a[0], a[1]), a -> model.pass(a[0], a[1]));
+                both("pass", what, a -> desk.pass(a[0], a[1]), a -> model.pass(a[0], a[1]));
                 break;
         }
     }
@@ -172,8 +184,9 @@ public final class ModelTest {
         double make(int[] numbers);
     }
 
-    private void both(int call, String name, int[] numbers, Made got, Made due) {
-        Check.same("seed " + seed + ", call " + call + ": " + name + java.util.Arrays.toString(numbers),
+    private void both(String name, int[] numbers, Made got, Made due) {
+        calls++;
+        Check.same("seed " + seed + ", call " + calls + ": " + name + java.util.Arrays.toString(numbers),
                 answer(() -> got.make(numbers)), answer(() -> due.make(numbers)));
     }
 
