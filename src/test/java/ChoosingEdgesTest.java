@@ -20,6 +20,7 @@ public final class ChoosingEdgesTest {
         takeOneInConflict();
         takeTwoInConflict();
         giveUpAnswer();
+        giveUpIsOpen();
         giveUpOfNone();
         giveUpOpen();
         giveUpBegan();
@@ -269,6 +270,16 @@ public final class ChoosingEdgesTest {
         Check.same("the only one", desk.giveUp(0), 0);
     }
 
+    private static void giveUpIsOpen() {
+        Check.sentence("Promise 14", "Gives a pass up: it is OPEN again.");
+        PassDesk desk = taken(16);
+        desk.giveUp(15);
+        Check.same("OPEN", desk.pass(15, 5), 0);
+        Check.same("no start", desk.pass(15, 7), -1);
+        Check.same("can be taken", desk.canTake(15), true);
+        Check.same("and is TAKEN again", desk.take(32768), 65535);
+    }
+
     private static void giveUpOfNone() {
         Check.sentence("Promise 14", "Throws IndexOutOfBoundsException if there is no such pass");
         Check.range("pass of 3", Check.RANGE, 0, 2, () -> taken(3), (desk, pass) -> desk.giveUp(pass));
@@ -349,11 +360,15 @@ public final class ChoosingEdgesTest {
         desk.run(100);
         Check.same("when all is over", desk.handovers(0), 1);
         PassDesk chain = Desks.of(2, 1);
+        PassDesk back = Desks.of(2, 1);
         for (int i = 0; i < 16; i++) {
             chain.addPass(0, i % 2, 10 * i, 10 * i + 11);
+            back.addPass(0, i % 2, 150 - 10 * i, 161 - 10 * i);
         }
         Check.same("a chain of 16", chain.take(65535), 65535);
-        Check.same("15 handovers", chain.handovers(0), 15);
+        Check.same("15 handovers, none of the first pass", chain.handovers(0), 15);
+        Check.same("a chain of 16, told from its end on", back.take(65535), 65535);
+        Check.same("15 handovers, none of the last pass", back.handovers(0), 15);
     }
 
     private static void handoversOfNone() {

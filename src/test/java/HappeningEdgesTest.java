@@ -221,6 +221,8 @@ public final class HappeningEdgesTest {
         PassDesk full = Desks.ofPasses(16);
         full.take(32768);
         Check.same("the last of 16", full.antenna(0, 1), 15);
+        full.take(32767);
+        Check.same("the first of 16", full.antenna(0, 1), 0);
     }
 
     private static void antennaOutage() {

@@ -282,6 +282,18 @@ public final class HappeningTest {
     }
 
     private static void promise22Digest() {
+        for (int minute = 0; minute < 60; minute += 2) {
+            PassDesk desk = Desks.at(minute, deskOfDigest());
+            Check.same("digest() in minute " + minute, desk.digest(), told(desk, 6));
+            Check.same("digest() once more", desk.digest(), told(desk, 6));
+            desk.setHandover(7);
+            Check.same("digest() of another handover", desk.digest(), told(desk, 7));
+        }
+        PassDesk full = Desks.busy();
+        Check.same("digest() of a full desk", full.digest(), told(full, 5));
+    }
+
+    private static PassDesk deskOfDigest() {
         PassDesk desk = new PassDesk();
         desk.addAntenna(3, 5, 10);
         desk.addAntenna(2, 0, 20);
@@ -293,13 +305,7 @@ public final class HappeningTest {
         desk.addOutage(1, 24, 26);
         desk.setHandover(6);
         desk.take(3);
-        for (int i = 0; i < 30; i++) {
-            Check.same("digest() in minute " + desk.now(), desk.digest(), told(desk, 6));
-            Check.same("digest() once more", desk.digest(), told(desk, 6));
-            desk.run(2);
-        }
-        desk.setHandover(7);
-        Check.same("digest() of another handover", desk.digest(), told(desk, 7));
+        return desk;
     }
 
     /** The checksum of what the desk tells by its other methods. */
